@@ -512,17 +512,11 @@ public final class OnlyRhymes {
 
     private void fillClashes(int kind, int want) {
         for (int w = 0; w < now.words; w++) {
-            clashes[w] = 0;
-        }
-        for (int w = 0; w < now.words; w++) {
-            int others = kinds[kind].chimes(now, want, w) & ~(1 << w);
-            clashes[w] |= others;
-            for (int x = 0; x < now.words; x++) {
-                clashes[x] |= (others >> x & 1) << w;
-            }
+            clashes[w] = kinds[kind].chimes(now, want, w) & ~(1 << w);
         }
     }
 
+    /** As each word of the set is taken in turn, this looks either way. */
     private boolean isPeaceful(int set) {
         for (int w = 0; w < now.words; w++) {
             if ((set >> w & 1) == 1 && (clashes[w] & set) != 0) {
@@ -821,8 +815,7 @@ public final class OnlyRhymes {
         int cheapest(int words, int meanings) {
             int best = NONE;
             int sets = Math.min(1 << words, WORD_SETS);
-            covered[0] = 0;
-            spent[0] = 0;
+            // places 0 are never written: no words cover nothing, for nothing
             for (int set = 0; set < sets; set++) {
                 if (set > 0) {
                     int less = set & (set - 1);
@@ -964,7 +957,6 @@ public final class OnlyRhymes {
         /** The FAULT, or NONE: then the tongue is as told. */
         int parseInto(Tongue t) {
             t.empty();
-            items = 0;
             place = 0;
             take();
             if (!isLetters("tongue") || !takesStop()) {

@@ -45,6 +45,15 @@ public final class PromisesTest {
     for (int i = 0; i < text.length(); i++) x.type(text.charAt(i));
   }
 
+  /** Ten words of ending 0, of the meanings 0 .. 7 and 0, 1; an echo and a rhymer who want 7. */
+  private static OnlyRhymes ten() {
+    OnlyRhymes x = new OnlyRhymes();
+    for (int w = 0; w < 10; w++) x.word(0, w % 8, w);
+    x.person(2, 7);
+    x.person(0, 7);
+    return x;
+  }
+
   private static void newObject() {
     OnlyRhymes x = new OnlyRhymes();
     for (int what = 0; what < 7; what++) due(1, "count(" + what + ")", x.count(what), 0);
@@ -77,6 +86,11 @@ public final class PromisesTest {
     due(2, "the image stays", x.from(0), 1);
     due(2, "count(0)", x.count(0), 5);
     due(2, "alike was forgotten in between, not in the image", x.count(2), 1);
+    x.tongue();
+    for (int a = 0; a < 8; a++) for (int b = 0; b < a; b++) due(2, "alike", x.alike(a, b, 1), 0);
+    x.tongue();
+    for (int a = 0; a < 8; a++) for (int b = 0; b < a; b++) due(2, "alike again", x.alike(b, a, 1), 0);
+    due(2, "all pairs", x.count(2), 28);
   }
 
   private static void word() {
@@ -184,6 +198,9 @@ public final class PromisesTest {
     faultAt("tongue  ", 8);
     faultAt("tongues;", 0);
     faultAt("tong;", 0);
+    faultAt("longue;", 0);
+    faultAt("tongua;", 0);
+    faultAt("tongue;bord 0 0 0;", 7);
     faultAt("; tongue;", 0);
     faultAt("word 0 0 0;tongue;", 0);
     faultAt("tongue;tongue;", 7);
@@ -218,6 +235,15 @@ public final class PromisesTest {
     faultAt("tongue;" + "person 0 0;".repeat(5) + " person 0 0;", 63);
     itemsIn("tongue;" + "word 0 0 0;".repeat(10), 11);
     itemsIn("tongue;" + "person 0 0;".repeat(5), 6);
+    itemsIn("tongue;" + " ".repeat(143), 1);
+    faultAt("tongue;" + " ".repeat(139) + "word", 150);
+    faultAt("tongue;" + " ".repeat(133) + "word 0 0 1", 150);
+    OnlyRhymes x = told("tongues; ");
+    tell(x, "tongue");
+    due(8, "what was cleared is not read", x.read(), -16);
+    tell(x, "tongue;word 0 0 1234;");
+    tell(x, "tongue;word 0 0 1");
+    due(8, "what was cleared is not read", x.read(), -27);
     readTakesThePlace();
   }
 
@@ -243,6 +269,12 @@ public final class PromisesTest {
     due(8, "undo()", x.undo(), -3);
     refused(8, x, 1, 1, 0);
     due(8, "read() again", x.read(), 4);
+    x.allow(0, 255, -1);
+    tell(x, "tongue;word 0 0 0;word 0 0 0;alike 0 1;person 0 0;x");
+    due(8, "a fault at last", x.read(), -10 - 50);
+    tell(x, "tongue;");
+    due(8, "what a fault left behind is not read", x.read(), 1);
+    for (int what = 0; what < 6; what++) due(8, "count(" + what + ")", x.count(what), 0);
     due(8, "the image stays", x.from(1), 1);
     due(8, "count(0)", x.count(0), 5);
     due(8, "count(5)", x.count(5), 1);
@@ -383,6 +415,15 @@ public final class PromisesTest {
     x.ask(1, 0, 1);
     due(16, "fewest(1, 7), 1 being said", x.fewest(1, 7), -1);
     due(16, "fewest(1, 5), 1 being said", x.fewest(1, 5), 1);
+    OnlyRhymes y = ten();
+    due(16, "fewest of ten", y.fewest(1, 255), 1);
+    y.tongue();
+    y.word(0, 0, 0);
+    y.person(0, 0);
+    due(16, "words that were are no more", y.fewest(0, 2), -1);
+    OnlyRhymes z = peopled();
+    due(16, "what is cheapest", z.errand(1, 1), 4);
+    due(16, "costs are none of it", z.fewest(2, 1), 1);
     due(16, "fewest(5, 0)", x.fewest(5, 0), -2);
     due(16, "fewest(-1, 0)", x.fewest(-1, 0), -2);
     due(16, "fewest(0, 256)", x.fewest(0, 256), -2);
@@ -410,6 +451,14 @@ public final class PromisesTest {
     due(17, "errand(0, 2)", x.errand(0, 2), -10);
     due(17, "errand(0, -1)", x.errand(0, -1), -10);
     refused(17, x, 4, 0, 0);
+    OnlyRhymes each = five();
+    each.person(1, 0);
+    each.person(0, 0);
+    due(17, "what the first can say counts too", each.errand(7, 1), 1);
+    due(17, "how much", each.errand(7, 0), 3);
+    each.person(2, 0);
+    due(17, "somebody asked one of them", each.errand(7, 1), 4);
+    due(17, "of ten", ten().errand(255, 1), 1);
     OnlyRhymes free = new OnlyRhymes();
     for (int w = 0; w < 3; w++) free.word(w, 0, 0);
     free.person(2, 0);
@@ -479,6 +528,15 @@ public final class PromisesTest {
     due(21, "next(5, 1)", x.next(5, 1), 4);
     due(21, "a rhymer next(0, 0)", x.next(0, 0), 0);
     due(21, "a rhymer next(0, 1)", x.next(0, 1), 8);
+    OnlyRhymes y = ten();
+    due(21, "of ten, an echo", y.next(2, 1), 1);
+    due(21, "of ten, a slow one", y.next(3, 0), 0);
+    y.tongue();
+    for (int w = 0; w < 8; w++) y.word(w, 0, 0);
+    y.word(3, 1, 0);
+    y.word(3, 2, 0);
+    due(21, "to the tenth the last can be answered", y.next(2, 0), 3);
+    due(21, "how many", y.next(2, 1), 6);
     x.hear(0, 2);
     due(21, "one is left, next(1, 0)", x.next(1, 0), 0);
     due(21, "one is left, next(1, 1)", x.next(1, 1), 1);
@@ -528,7 +586,34 @@ public final class PromisesTest {
     due(22, "slow ones, LONGEST", slow.two(0, 1, 0, 1), 5);
     due(22, "slow ones, SHORTEST", slow.two(0, 1, 0, 2), 1);
     due(22, "slow ones, who falls silent", slow.two(0, 1, 0, 0), 1);
-    due(22, "the digest stays", slow.count(3), 0);
+    due(22, "nothing is said by it", slow.count(3), 0);
+    OnlyRhymes y = ten();
+    due(22, "of ten, all ten", y.two(0, 1, 9, 1), 10);
+    due(22, "of ten, at least", y.two(0, 1, 9, 2), 10);
+    due(22, "of ten, who falls silent", y.two(0, 1, 9, 0), 0);
+    due(22, "of ten, but a rhymer first", y.two(1, 0, 9, 1), 10);
+    y.ask(0, 0, 0);
+    due(22, "of nine", y.two(0, 1, 9, 1), 9);
+    due(22, "of nine, who falls silent", y.two(0, 1, 9, 0), 1);
+    // a slow one may leap ahead; what both leave behind can be answered only by the rhymer
+    OnlyRhymes leap = new OnlyRhymes();
+    for (int w = 0; w < 4; w++) leap.word(0, 0, 0);
+    leap.person(3, 0);
+    leap.person(0, 0);
+    due(22, "slow and rhymer, LONGEST", leap.two(0, 1, 0, 1), 4);
+    due(22, "slow and rhymer, SHORTEST", leap.two(0, 1, 1, 2), 2);
+    due(22, "slow and rhymer, who falls silent", leap.two(0, 1, 0, 0), 0);
+    due(22, "rhymer and slow, LONGEST", leap.two(1, 0, 0, 1), 4);
+    due(22, "rhymer and slow, SHORTEST", leap.two(1, 0, 0, 2), 1);
+    // half ones: asked 2 the first may say 3 (then 0, 1 or 1, 0 is left to be said), 0 or 1
+    OnlyRhymes half = five();
+    half.person(1, 0);
+    half.person(0, 0);
+    due(22, "half and rhymer, LONGEST", half.two(0, 1, 2, 1), 4);
+    due(22, "half and rhymer, SHORTEST", half.two(0, 1, 2, 2), 4);
+    due(22, "rhymer and half, LONGEST", half.two(1, 0, 2, 1), 4);
+    due(22, "rhymer and half, SHORTEST", half.two(1, 0, 2, 2), 2);
+    due(22, "rhymer and half, who falls silent", half.two(1, 0, 2, 0), 0);
   }
 
   private static void will() {
@@ -540,6 +625,13 @@ public final class PromisesTest {
     due(23, "will(4, 0), a poet's 0 and 3 are of one meaning", x.will(4, 0), 25);
     due(23, "will(5, 3), all chime with 4", x.will(5, 3), 1);
     due(23, "will(5, 7), no word is his", x.will(5, 7), 17);
+    due(23, "of ten all chime", ten().will(3, 0), 1);
+    OnlyRhymes apart = new OnlyRhymes();
+    for (int w = 0; w < 8; w++) apart.word(w, w, 0);
+    apart.word(0, 0, 0);
+    apart.word(0, 0, 0);
+    due(23, "all but the first ones that chime", apart.will(0, 0), 255);
+    due(23, "a poet's are all apart", apart.will(4, 0), 1023);
     x.person(2, 0);
     x.ask(0, 4, 4);
     due(23, "said or not", x.will(0, 0), 21);
@@ -562,6 +654,8 @@ public final class PromisesTest {
     due(24, "worst(5)", x.worst(5), -2);
     due(24, "worst(-1)", x.worst(-1), -2);
     refused(24, x, 2, 0, 0);
+    due(24, "all meanings to each", ten().worst(0), 0);
+    due(24, "all but one to some", ten().worst(1), 2);
     OnlyRhymes none = new OnlyRhymes();
     none.person(0, 0);
     due(24, "no words", none.worst(0), -1);
@@ -590,6 +684,18 @@ public final class PromisesTest {
     due(25, "a meaning of no word", x.allow(0, 128, -1), -1);
     due(25, "a rhymer", x.allow(1, 1, -1), -1);
     due(25, "it changes nothing", x.count(2), 0);
+    OnlyRhymes y = new OnlyRhymes();
+    for (int w = 0; w < 3; w++) y.word(w, w, 0);
+    y.word(6, 6, 0);
+    y.word(7, 7, 0);
+    y.person(1, 0);
+    due(25, "the first pair alone", y.allow(0, 3, -1), 1);
+    due(25, "the first pair", y.allow(0, 3, 0), 1);
+    due(25, "the last pair", y.allow(0, 192, 0), 67);
+    due(25, "three, the 0th", y.allow(0, 7, 0), 1);
+    due(25, "three, the 1st", y.allow(0, 7, 1), 2);
+    due(25, "the first and the last, the 0th", y.allow(0, 195, 0), 1);
+    due(25, "the first and the last, the 1st", y.allow(0, 195, 1), 67);
     x.alike(2, 3, 1);
     due(25, "one is alike", x.allow(0, 15, -1), 1);
     due(25, "one is alike, the 0th", x.allow(0, 15, 0), 45);
@@ -636,6 +742,13 @@ public final class PromisesTest {
     refused(26, x, 8, 0, 0);
     x.ask(0, 0, 1);
     chance(x, 0, 3, 0, 1);
+    OnlyRhymes y = new OnlyRhymes();
+    for (int w = 0; w < 8; w++) y.word(w, 0, 0);
+    y.word(7, 0, 0);
+    y.word(0, 1, 0);
+    y.person(0, 0);
+    chance(y, 9, 3, 3, 10);
+    chance(y, 8, 10, 0, 1);
   }
 
   private static void talks() {
@@ -659,6 +772,9 @@ public final class PromisesTest {
     due(27, "talks(0, 61)", x.talks(0, 61), -2);
     refused(27, x, 4, 0, 0);
     talksByLots();
+    due(27, "ten words, then nothing, by an echo and a rhymer", ten().talks(1, 10), 10);
+    due(27, "ten and one", ten().talks(1, 11), 10);
+    due(27, "ten and two", ten().talks(1, 12), 11);
     due(27, "no words, but BAD", new OnlyRhymes().talks(0, 61), -2);
   }
 
@@ -740,9 +856,24 @@ public final class PromisesTest {
     due(30, "all is as it was", x.digest(), digest);
     due(30, "what may be undone it keeps", x.undo(), 0);
     due(30, "no more", x.undo(), -3);
+    x.forget();
+    x.hear(4, 4);
+    x.rest();
+    x.ask(0, 2, 3);
+    x.ask(0, 1, 0);
     due(30, "from(1) again", x.from(1), 1);
     due(30, "all is as it was", x.digest(), digest);
-    refused(30, x, 2, 3, 0);
+    due(30, "undo() again", x.undo(), 0);
+    due(30, "no more", x.undo(), -3);
+    refused(30, x, 2, 4, 0);
+    OnlyRhymes y = ten();
+    for (int w = 0; w < 4; w++) y.ask(0, 0, w);
+    y.image(0);
+    y.rest();
+    for (int w = 9; w > 3; w--) y.ask(0, 0, w);
+    y.from(0);
+    due(30, "undo()", y.undo(), 3);
+    due(30, "the words that are said then", y.answers(0, 0, 1), 1016);
   }
 
   private static void status() {
