@@ -2,6 +2,11 @@ import java.util.Random;
 
 /** Runs of calls by fixed seeds, ordinary and wrong numbers mixed, on the class and on the Model. */
 public final class AgainstModelTest {
+  /** Some bytes more than a text can have. */
+  private static final int MOST_TYPED = 155;
+  /** A step may type a whole text, and what comes behind 512 calls is free. */
+  private static final int MOST_CALLS_AHEAD_OF_A_STEP = 350;
+
   private static int wrong = 0;
 
   private final Random random;
@@ -10,6 +15,7 @@ public final class AgainstModelTest {
   private final int seed;
   private final int endings;
   private final int wrongOf;
+  private int calls;
 
   private AgainstModelTest(int seed) {
     this.seed = seed;
@@ -19,6 +25,7 @@ public final class AgainstModelTest {
   }
 
   private void due(String call, long got, long want) {
+    calls++;
     if (got != want) {
       wrong++;
       if (wrong <= 20) System.out.println("seed " + seed + ": " + call + " answered " + got + ", due is " + want);
@@ -45,7 +52,7 @@ public final class AgainstModelTest {
   }
 
   private void tell(String text) {
-    for (int i = 0; i < text.length(); i++) {
+    for (int i = 0; i < text.length() && i < MOST_TYPED; i++) {
       int c = text.charAt(i);
       due(call("type", c), x.type(c), m.type(c));
     }
@@ -147,7 +154,7 @@ public final class AgainstModelTest {
     int people = random.nextInt(6);
     for (int i = 0; i < words; i++) { int a = some(endings), b = some(8), c = some(21); due(call("word", a, b, c), x.word(a, b, c), m.word(a, b, c)); }
     for (int i = 0; i < people; i++) { int a = some(6), b = some(8); due(call("person", a, b), x.person(a, b), m.person(a, b)); }
-    for (int i = 0; i < 120; i++) {
+    for (int i = 0; i < 120 && calls < MOST_CALLS_AHEAD_OF_A_STEP; i++) {
       if (random.nextInt(3) == 0) change(); else look();
       due("digest()", x.digest(), m.digest());
     }

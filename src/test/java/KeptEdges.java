@@ -24,13 +24,15 @@ final class KeptEdges {
   static void imagesKeepAllButThese() {
     Run r = Run.full().bad("type(128)");
     long digest = r.call("digest()");
-    r.does("image(1)", "tongue()", "clear()", "word(3, 3, 3)", "person(2, 3)", "hear(0, 0)", "misheard(0, 0, 3, 0)", "image(0)").no("undo()");
+    r.does("image(1)", "tongue()", "clear()", "word(3, 3, 3)", "word(4, 4, 4)", "person(2, 3)");
+    for (int h = 0; h < 6; h++) r.does("hear(" + (h + 1) % 2 + ", 0)");
+    r.does("misheard(0, 0, 3, 0)", "image(0)").no("undo()");
     r.due("from(1)", 1).due("count(0)", 10).due("count(1)", 5).due("count(2)", 28).due("count(3)", 10).due("count(4)", 6).due("count(5)", 8);
     r.due("count(6)", 0).due("part(0)", 1).due("part(1)", 1).due("status(0)", 1).due("status(1)", 1);
     // with its text and its fraction again it is all as it was
     r.does("rest()", "misheard(0, 0, 7, 0)", "from(1)").type("x".repeat(150)).due("part(0)", 0).due("digest()", digest);
     // the other image is not in it, nor changed by it
-    r.due("from(0)", 1).due("count(0)", 1).due("of(0, 0)", 3).due("count(4)", 1);
+    r.due("from(0)", 1).due("count(0)", 2).due("of(0, 0)", 3).due("count(4)", 6).due("count(2)", 0);
   }
 
   @Sentence(of = {29, 30, 11}, says = "what may be undone they keep;")

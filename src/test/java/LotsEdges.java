@@ -116,14 +116,22 @@ final class LotsEdges {
 
   @Sentence(of = 27, says = "he answers his first ANSWER of the MEANING he WANTS, else his first ANSWER, that is SAID;")
   static void heAnswersWhatHeWants() {
-    // by seed 1 of two words the lots are 0 0 1: with a card he says 1, so the echo still has 0; or he says 0, and it has none
-    Run wants = new Run().does("word(0, 0, 0)", "word(1, 5, 0)", "person(5, 5)", "person(2, 0)");
-    Run other = new Run().does("word(0, 0, 0)", "word(1, 5, 0)", "person(5, 0)", "person(2, 0)");
-    wants.due("talks(1, 1)", 1).due("talks(1, 2)", 2);
-    other.due("talks(1, 1)", 1).due("talks(1, 2)", 1);
-    // an echo who wants what no word has says the first that he can: 0, then a slow one asked 0 says 1
-    Run first = new Run().does("word(0, 0, 0)", "word(0, 1, 0)", "person(2, 7)", "person(3, 7)", "person(3, 7)");
-    first.due("talks(1, 1)", 1).due("talks(1, 2)", 2).due("talks(1, 3)", 2);
+    // by seed 1 of two words the lots are 0 0 1: an echo who wants 5 says 1, and a rhymer asked 0 has it no more
+    Run wants = new Run().does("word(0, 0, 0)", "word(0, 5, 0)", "person(2, 5)", "person(0, 0)");
+    wants.due("talks(1, 1)", 1).due("talks(1, 2)", 1);
+    // an echo who wants 0, or what no word has, says 0, and the rhymer has 1
+    for (int want : new int[] {0, 7}) {
+      Run first = new Run().does("word(0, 0, 0)", "word(0, 5, 0)", "person(2, " + want + ")", "person(0, 5)");
+      first.due("talks(1, 1)", 1).due("talks(1, 2)", 2);
+    }
+    // he wants 5, but 1 is said: he says his first answer
+    new Run().does("word(0, 0, 0)", "word(0, 5, 0)", "person(2, 5)", "ask(0, 0, 1)").due("talks(1, 1)", 1).due("talks(1, 2)", 1);
+    // by seed 1 of three words the lots are 2 1: of two that he wants one with a card says the first, 1, and an echo asked 1 has it no more
+    Run both = new Run().does("word(0, 0, 0)", "word(1, 5, 0)", "word(2, 5, 0)", "person(5, 5)", "person(2, 0)");
+    both.due("talks(1, 1)", 1).due("talks(1, 2)", 1);
+    // what he answers is said: a third one, asked 1, has nothing
+    Run third = new Run().does("word(0, 0, 0)", "word(0, 1, 0)", "person(2, 7)", "person(3, 7)", "person(3, 7)");
+    third.due("talks(1, 1)", 1).due("talks(1, 2)", 2).due("talks(1, 3)", 2);
   }
 
   @Sentence(of = 27, says = "else nothing, and from then on nothing is SAID: how many answers;")

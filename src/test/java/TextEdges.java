@@ -145,6 +145,11 @@ final class TextEdges {
     fault("tongues;", 0);
     fault("tong;", 0);
     fault("t;", 0);
+    fault("longue;", 0);
+    fault("tongua;", 0);
+    fault("tongue;bord 0 0 0;", 7);
+    fault("tongue;elike 0 1;", 7);
+    fault("tongue;verson 0 0;", 7);
     fault("tongue;words 0 0 0;", 7);
     fault("tongue;wor 0 0 0;", 7);
     fault("tongue;alik 0 1;", 7);

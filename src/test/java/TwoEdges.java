@@ -68,6 +68,18 @@ final class TwoEdges {
     talk(pair(5, 3, 3), "0, 1, 0", 1, 5, 1);
     talk(pair(5, 3, 3), "0, 1, 4", 1, 1, 1);
     talk(pair(10, 3, 2), "0, 1, 9", 0, 10, 2);
+    // half ones asked 0, which is said: 1 2 or 2 1 are said alike, but from 2 it goes on by 3, from 1 by 4; behind one of these stands 5
+    talk(chain("alike(4, 5, 1)"), "0, 1, 0", 1, 4, 2);
+    talk(chain("alike(3, 5, 1)"), "0, 1, 0", 1, 4, 2);
+    talk(chain("alike(6, 7, 1)"), "0, 1, 0", 0, 3, 2);
+  }
+
+  /** Words of the endings 0 .. 5, of which 0 1, 0 2, 1 2, 2 3, 1 4 and one pair more are alike; 0 is said. */
+  private static Run chain(String more) {
+    Run r = new Run();
+    for (int w = 0; w < 6; w++) r.does("word(" + w + ", 0, 0)");
+    r.does("alike(0, 1, 1)", "alike(0, 2, 1)", "alike(1, 2, 1)", "alike(2, 3, 1)", "alike(1, 4, 1)", more);
+    return r.does("person(1, 0)", "person(1, 0)", "ask(0, 1, 0)");
   }
 
   @Sentence(of = 22, says = "BAD: alike, too.")
