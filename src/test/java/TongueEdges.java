@@ -50,6 +50,14 @@ final class TongueEdges {
     r.due("of(0, 0)", 3).due("of(0, 1)", 4).due("of(0, 2)", 5).due("of(0, 3)", 0).due("about(0, 0)", 1).due("about(0, 1)", 6);
   }
 
+  @Sentence(of = {2, 16, 17, 21, 22, 23, 24, 25}, says = "All as at first")
+  static void behindATongueWordsThatWereCountNowhere() {
+    Run r = Run.full().does("rest()", "forget()", "fewest(0, 255)", "errand(255, 0)", "two(0, 1, 0, 0)", "two(0, 1, 0, 1)", "will(2, 0)", "next(2, 0)", "worst(0)", "allow(2, 255, -1)");
+    r.does("tongue()", "word(0, 0, 7)", "person(2, 0)", "person(1, 0)").due("fewest(0, 1)", 1).due("errand(1, 0)", 7);
+    r.due(-1, "fewest(0, 2)", "fewest(0, 128)", "errand(2, 0)", "errand(2, 1)", "errand(255, 0)", "allow(1, 2, -1)", "allow(1, 1, -1)");
+    r.due("will(2, 0)", 1).due("next(2, 0)", 0).due("next(2, 1)", 8).due("worst(0)", 0).due("two(0, 1, 0, 0)", 1).due("two(0, 1, 0, 1)", 1).due("asks(0, 1)", 0);
+  }
+
   @Sentence(of = 2, says = "(but for IMAGES, THE TEXT, THE FRACTION, STATUS):")
   static void tongueLeavesImagesTextFractionStatus() {
     Run r = Run.full().does("rest()", "misheard(0, 0, 0, 3)").bad("word(8, 0, 0)").no("from(1)").full("word(0, 0, 0)");
